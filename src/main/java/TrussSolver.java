@@ -29,7 +29,6 @@ public final class TrussSolver {
     private static final int NOT_FIRM = -300;
 
     /** What stands in place of an unknown's number. */
-    private static final int NOT_THERE = -1;
     private static final int IS_HELD = -2;
 
     /** Euclid's algorithm on two longs ends within 92 steps. */
@@ -39,21 +38,21 @@ public final class TrussSolver {
     private final Numbering numbering;
     private final Equations equations;
     private final Response response;
-    private boolean sealed;
+    private boolean isSealed;
 
     public TrussSolver() {
         truss = new Truss();
         numbering = new Numbering();
         equations = new Equations();
         response = new Response();
-        sealed = false;
+        isSealed = false;
     }
 
     public int node(int n, int x, int y) {
         if (!isNode(n) || !isOnGrid(x) || !isOnGrid(y)) {
             return REFUSED;
         }
-        if (sealed) {
+        if (isSealed) {
             return SEALED;
         }
         if (truss.hasOtherAt(n, x, y)) {
@@ -67,7 +66,7 @@ public final class TrussSolver {
         if (!isNode(a) || !isNode(b) || k < 1 || k > STIFFEST || a == b) {
             return REFUSED;
         }
-        if (sealed) {
+        if (isSealed) {
             return SEALED;
         }
         if (truss.barCount >= BARS) {
@@ -80,7 +79,7 @@ public final class TrussSolver {
         if (!isBarThere(i)) {
             return REFUSED;
         }
-        if (sealed) {
+        if (isSealed) {
             return SEALED;
         }
         truss.removeBar(i);
@@ -91,7 +90,7 @@ public final class TrussSolver {
         if (!isNode(n) || !isDirection(direction) || h < -FARTHEST_HOLD || h > FARTHEST_HOLD) {
             return REFUSED;
         }
-        if (sealed) {
+        if (isSealed) {
             return SEALED;
         }
         int slot = slotOf(n, direction);
@@ -104,7 +103,7 @@ public final class TrussSolver {
         if (!isNode(n) || !isDirection(direction) || k < 0 || k > STIFFEST) {
             return REFUSED;
         }
-        if (sealed) {
+        if (isSealed) {
             return SEALED;
         }
         truss.springs[slotOf(n, direction)] = k;
@@ -121,7 +120,7 @@ public final class TrussSolver {
     }
 
     public int solve() {
-        if (sealed) {
+        if (isSealed) {
             return SEALED;
         }
         if (truss.nodeCount() == 0) {
@@ -137,15 +136,15 @@ public final class TrussSolver {
         if (weak >= 0) {
             return NOT_FIRM - weak;
         }
-        sealed = true;
+        isSealed = true;
         return numbering.unknowns;
     }
 
     public int open() {
-        if (!sealed) {
+        if (!isSealed) {
             return REFUSED;
         }
-        sealed = false;
+        isSealed = false;
         return DONE;
     }
 
@@ -159,7 +158,7 @@ public final class TrussSolver {
     }
 
     public long force(int c, int i, int part) {
-        if (!sealed || !isCase(c) || !isBarThere(i) || !isPart(part)) {
+        if (!isSealed || !isCase(c) || !isBarThere(i) || !isPart(part)) {
             return NONE;
         }
         response.chooseCase(c);
@@ -190,18 +189,18 @@ public final class TrussSolver {
     }
 
     public long determinant() {
-        return sealed ? equations.wholeMinor() : NONE;
+        return isSealed ? equations.wholeMinor() : NONE;
     }
 
     public int order(int i) {
-        if (!sealed || i < 0 || i >= numbering.placed) {
+        if (!isSealed || i < 0 || i >= numbering.placed) {
             return REFUSED;
         }
         return numbering.nodes[i];
     }
 
     public int unknown(int n, int direction) {
-        if (!sealed || !isNodeThere(n) || !isDirection(direction)) {
+        if (!isSealed || !isNodeThere(n) || !isDirection(direction)) {
             return REFUSED;
         }
         return numbering.unknownAt[slotOf(n, direction)];
@@ -214,18 +213,18 @@ public final class TrussSolver {
             case 1:
                 return truss.barCount;
             case 2:
-                return sealed ? 1 : 0;
+                return isSealed ? 1 : 0;
             case 3:
-                return sealed ? numbering.unknowns : 0;
+                return isSealed ? numbering.unknowns : 0;
             case 4:
-                return sealed ? equations.profile() : 0;
+                return isSealed ? equations.profile() : 0;
             default:
                 return REFUSED;
         }
     }
 
     private boolean isAnswerable(int n, int direction, int part) {
-        return sealed && isNodeThere(n) && isDirection(direction) && isPart(part);
+        return isSealed && isNodeThere(n) && isDirection(direction) && isPart(part);
     }
 
     private boolean isNodeThere(int n) {
@@ -455,7 +454,6 @@ public final class TrussSolver {
         }
 
         private void numberSlots(Truss truss) {
-            Arrays.fill(unknownAt, NOT_THERE);
             unknowns = 0;
             for (int place = 0; place < placed; place++) {
                 for (int direction = 0; direction < DIRECTIONS; direction++) {
@@ -480,12 +478,12 @@ public final class TrussSolver {
      * both the determinant and the solutions follow by sums and products alone.
      *
      * <p>Elimination would need exact divisions of products that a long can't hold. Without
-     * divisions, what wraps around on the way does no harm: every result, be it a determinant (below
-     * 10 to the 12th) or a determinant times a displacement (below 10 to the 18th), fits a long and
-     * so comes out whole.
+     * divisions, what wraps around on the way does no harm: every result, be it a determinant
+     * (below 10 to the 12th) or a determinant times a displacement (below 10 to the 18th), fits a
+     * long and so comes out whole.
      */
     private static final class Equations {
-        /** By slots, held ones too: what pulls back in the row's slot per displacement in the column's. */
+        /** By slots, held ones too: the pull back in the row's one per displacement in the column's. */
         final long[][] stiffness = new long[SLOTS][SLOTS];
         private final long[][] matrix = new long[SLOTS][SLOTS];
         private int size = 0;
@@ -590,8 +588,8 @@ public final class TrussSolver {
 
         /**
          * Puts the determinant times the solution for the right side into the scaled row. By Cayley
-         * and Hamilton the determinant times the inverse is, up to the sign, the polynomial without
-         * its last coefficient, divided by t, of the matrix.
+         * and Hamilton the determinant times the inverse is, up to the sign, what the polynomial
+         * without its last coefficient, divided by t, makes of the matrix.
          */
         void solveScaled(long[] rightSide, long[] scaled) {
             System.arraycopy(rightSide, 0, scaled, 0, size);
@@ -621,7 +619,7 @@ public final class TrussSolver {
         }
     }
 
-    /** What a combination of the cases does to the structure; a case is one with a single factor 1. */
+    /** What a combination of the cases does; a case is one with a single factor 1. */
     private static final class Response {
         private final int[] factors = new int[CASES];
         private final long[] loads = new long[SLOTS];
