@@ -28,6 +28,7 @@ public final class AnswersBoundaryTest {
         countWhenSealed();
         countOfUnknownsAndProfile();
         countIsRefused();
+        wrongArgumentsInEveryState();
         Report.end();
     }
 
@@ -479,5 +480,28 @@ public final class AnswersBoundaryTest {
         }
         open.counts(0, 0, 0, 0, 0);
         sealed.counts(2, 1, 1, 1, 0);
+    }
+
+    private static void wrongArgumentsInEveryState() {
+        Report.sentence("Terms", "Every call first tests its arguments in their order, out of range"
+                + " or not there answering REFUSED, then what is said; (answers)");
+        for (int bad : Asked.outside(0, 9)) {
+            askWrongly(new Asked(), bad);
+            askWrongly(loaded(), bad);
+            askWrongly(loaded().hold(1, 1, false, 0, 0).solve(-301), bad);
+            askWrongly(loaded().solve(1), bad);
+            askWrongly(loaded().solve(1).open(0), bad);
+        }
+    }
+
+    private static void askWrongly(Asked t, int bad) {
+        t.noDisplacement(bad, 0, 0).noDisplacement(0, bad, 0).noDisplacement(0, 0, bad);
+        t.noDisplacement(bad, bad, bad).displacementPart(0, 0, 0, bad, NONE);
+        t.noForce(bad, 0).noForce(0, bad).noForce(bad, bad).forcePart(0, 0, bad, NONE);
+        t.noReaction(bad, 0, 0).noReaction(0, bad, 0).noReaction(0, 0, bad);
+        t.noReaction(bad, bad, bad).reactionPart(0, 0, 0, bad, NONE);
+        t.noCombined(bad, bad, 0).noCombined(bad, 0, bad).combinedPart(bad, 0, 0, bad, NONE);
+        t.order(bad, -1).unknown(bad, 0, -1).unknown(0, bad, -1).unknown(bad, bad, -1);
+        t.count(bad, -1);
     }
 }

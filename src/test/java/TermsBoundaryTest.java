@@ -371,6 +371,9 @@ public final class TermsBoundaryTest {
         Asked few = new Asked().node(4, 0, 0, 0).node(2, 1, 0, 0).node(3, 2, 0, 0)
                 .bar(2, 3, 1, 0).bar(2, 4, 1, 1).fix(2).fix(3).fix(4).solve(0);
         few.wholeOrder(4, 2, 3);
+        // Bars that have been taken away make no neighbours.
+        joined(0, 1, 1, 2, 2, 0).wholeOrder(2, 1, 0, 4, 3).open(0).unbar(0, 2).unbar(0, 1)
+                .unbar(0, 0).solve(10).wholeOrder(4, 3, 2, 1, 0);
     }
 
     private static void orderGoesThrough() {
@@ -624,7 +627,7 @@ public final class TermsBoundaryTest {
         t.displacement(0, 0, 1, -9, 1).displacement(0, 1, 1, 6, 1).combined(2, 1, 1, 12, 1);
     }
 
-    /** All five kinds of changes, none of which changes what is told. */
+    /** All five kinds of changes; if they are made, the structure is the same behind them. */
     private static void changesOfRod(Asked t, boolean open) {
         t.node(1, 2, 0, open ? 0 : -4).hold(0, 0, true, 0, open ? 0 : -4);
         t.spring(0, 0, 0, open ? 0 : -4).bar(0, 1, 3, open ? 1 : -4);
